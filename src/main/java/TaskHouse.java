@@ -223,7 +223,7 @@ public final class TaskHouse {
         if (!tasks.isIn(t, Tasks.CLAIMED) || field < NONE || field >= FIELDS) {
             return NONE;
         }
-        if (value < 0 || value > HIGHEST_NUMBER) {
+        if (field != NONE && (value < 0 || value > HIGHEST_NUMBER)) {
             return NONE;
         }
         Run it = runAt(tasks.runs[t]);
@@ -433,6 +433,7 @@ public final class TaskHouse {
         static final int END = 15;
         static final int BAD = 16;
 
+        private static final int SHORTEST_TASK_NAME = 2;
         private static final int LONGEST_NAME = 6;
         private static final int BITS_A_LETTER = 5;
         private static final int TOO_HIGH = 1000;
@@ -507,7 +508,12 @@ public final class TaskHouse {
             }
         }
 
-        int letters() {
+        /** A field's letter alone names no task, neither behind do nor behind eyes. */
+        boolean isTaskName() {
+            return kind == NAME && letters() >= SHORTEST_TASK_NAME;
+        }
+
+        private int letters() {
             return at - start;
         }
 
@@ -824,7 +830,7 @@ public final class TaskHouse {
         }
 
         private void readNewName() {
-            if (tape.kind != Tape.NAME || tape.letters() < 2) {
+            if (!tape.isTaskName()) {
                 fail(MISPLACED);
             } else if (doNamed(tape.value) != NONE) {
                 fail(WRONG_NAME);
@@ -840,7 +846,7 @@ public final class TaskHouse {
         private int readEyes() {
             tape.take();
             int which = doNamed(tape.value);
-            if (tape.kind != Tape.NAME) {
+            if (!tape.isTaskName()) {
                 fail(MISPLACED);
             } else if (which == NONE) {
                 fail(WRONG_NAME);

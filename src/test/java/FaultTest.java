@@ -74,7 +74,10 @@ public final class FaultTest {
         bad("both { do ab role 1 due 1; } { do ab role 1 due 1; }", 2, 34);
         bad("do ab role 1 due 1 eyes ba;", 2, 24);
         bad("do ab role 1 due 1 eyes cd; do cd role 1 due 1;", 2, 24);
-        bad("do ab role 1 due 1 eyes x;", 2, 24);
+        bad("do ab role 1 due 1 eyes x;", 1, 24);
+        bad("do ab role 1 due 1 eyes a;", 1, 24);
+        bad("do ab role 1 due 1 eyes b", 1, 24);
+        bad("set a 1; do ab role 1 due 1 eyes a;", 1, 33);
         bad("do ab role 1 due 1 eyes ;", 1, 24);
         bad("do ab role 1 due 1 eyes role;", 1, 24);
         bad("do ab role 1 due 1 eyes 5;", 1, 24);

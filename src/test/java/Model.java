@@ -216,7 +216,7 @@ final class Model {
             it.due = number(1, 99);
             if (token().equals("eyes")) {
                 at++;
-                if (!isName()) {
+                if (!isName() || token().length() < 2) {
                     throw fault(1);
                 }
                 if (!told.containsKey(token())) {
@@ -555,7 +555,10 @@ final class Model {
     }
 
     int done(int t, int field, int value) {
-        if (!isTask(t) || tasks.get(t).state != 1 || field < -1 || field > 3 || value < 0 || value > 99) {
+        if (!isTask(t) || tasks.get(t).state != 1 || field < -1 || field > 3) {
+            return NONE;
+        }
+        if (field >= 0 && (value < 0 || value > 99)) {
             return NONE;
         }
         Task task = tasks.get(t);

@@ -265,7 +265,8 @@ public final class ModelTest {
         int value = oneIn(2) ? about(5) : about(100);
         boolean claimed = m.isTask(t) && m.tasks.get(t).state == 1;
         int want = m.done(t, field, value);
-        if (claimed && want == -1 && field >= -1 && field < 4 && value >= 0 && value < 100) {
+        boolean taken = field == -1 || field >= 0 && field < 4 && value >= 0 && value < 100;
+        if (claimed && want == -1 && taken) {
             full++;
         }
         same("done(" + t + ", " + field + ", " + value + ")", x.done(t, field, value), want);

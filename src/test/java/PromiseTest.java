@@ -29,6 +29,7 @@ public final class PromiseTest {
         claim();
         giveBack();
         done();
+        doneWithoutField();
         doneFull();
         list();
         listed();
@@ -698,6 +699,28 @@ public final class PromiseTest {
             for (int other = 0; other < 4; other++) {
                 same("field " + other, x.runOf(field + 1, other), other == field ? 99 : 0);
             }
+        }
+    }
+
+    /** Without a field no value is put, so that no value is a wrong one. */
+    private static void doneWithoutField() {
+        int[] values = {0, 99, -1, 100, LOW, HIGH};
+        for (int value : values) {
+            TaskHouse x = Check.house("do aa role 0 due 1; do bb role 0 due 1;");
+            x.person(1, 1);
+            x.run();
+            x.claim(0, 0);
+            same("done(0, -1, " + value + ")", x.done(0, NONE, value), 1);
+            same("is done", x.task(0, 5), 2);
+            same("done by it", x.personOf(0, 5), 1);
+            same("not again", x.done(0, 0, 1), NONE);
+            for (int field = 0; field < 4; field++) {
+                same("field " + field, x.runOf(0, field), 0);
+            }
+            x.claim(0, 1);
+            same("a wrong field", x.done(1, -2, value), NONE);
+            same("a wrong field", x.done(1, 4, value), NONE);
+            same("still claimed", x.task(1, 5), 1);
         }
     }
 
