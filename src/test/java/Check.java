@@ -1,6 +1,7 @@
 /** Counts and prints the answers that are not as due, and feeds texts. */
 final class Check {
     private final String name;
+    private String sentence = "";
     private int made = 0;
     private int wrong = 0;
 
@@ -8,11 +9,16 @@ final class Check {
         this.name = name;
     }
 
+    /** What is tested from here on: a sentence of the document, with the number of the promise it is seen by. */
+    void promise(int number, String words) {
+        sentence = "promise " + number + " (" + words + "): ";
+    }
+
     void same(String what, long got, long want) {
         made++;
         if (got != want) {
             wrong++;
-            System.out.println(name + ": " + what + " answered " + got + ", due is " + want);
+            System.out.println(name + ": " + sentence + what + " answered " + got + ", due is " + want);
         }
     }
 

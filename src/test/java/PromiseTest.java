@@ -62,8 +62,8 @@ public final class PromiseTest {
         }
     }
 
-    // 1
     private static void newObject() {
+        check.promise(1, "a new object");
         TaskHouse x = new TaskHouse();
         same("NONE", TaskHouse.NONE, -1);
         int[] want = {NONE, NONE, 0, 0, 0, 0, 0};
@@ -81,8 +81,8 @@ public final class PromiseTest {
         same("new giveBack(0)", x.giveBack(0), false);
     }
 
-    // 2
     private static void feed() {
+        check.promise(2, "feed");
         TaskHouse x = new TaskHouse();
         for (int n = 20; n <= 300; n += 20) {
             same("feed to " + n, x.feed(0, -1, 2, LOW, HIGH), n);
@@ -106,8 +106,8 @@ public final class PromiseTest {
         same("place of the last byte", y.fault(1), 19);
     }
 
-    // 3
     private static void end() {
+        check.promise(3, "end");
         TaskHouse x = new TaskHouse();
         same("end(1) of an empty tape", x.end(1), NONE);
         same("end(0) of an empty tape", x.end(0), 0);
@@ -127,8 +127,8 @@ public final class PromiseTest {
         same("c", x.runOf(0, 2), 3);
     }
 
-    // 4
     private static void business() {
+        check.promise(4, "business");
         TaskHouse x = new TaskHouse();
         same("a business of nothing", x.business(), 0);
         same("about(0)", x.about(0), 0);
@@ -146,8 +146,8 @@ public final class PromiseTest {
         same("names anew in each", Check.tell(x, "do ab role 1 due 1;"), 1);
     }
 
-    // 5
     private static void fault() {
+        check.promise(5, "fault");
         TaskHouse x = new TaskHouse();
         for (int what = -2; what < 4; what++) {
             same("fault ahead of any", x.fault(what), NONE);
@@ -167,8 +167,8 @@ public final class PromiseTest {
         same("fault(2) without", x.fault(2), NONE);
     }
 
-    // 6
     private static void person() {
+        check.promise(6, "person");
         TaskHouse x = new TaskHouse();
         int[][] others = {{-1, 1}, {64, 1}, {LOW, 1}, {HIGH, 1}, {1, 0}, {1, 10}, {1, -1}, {1, LOW}, {1, HIGH}};
         for (int[] it : others) {
@@ -188,8 +188,8 @@ public final class PromiseTest {
         }
     }
 
-    // 7
     private static void deputy() {
+        check.promise(7, "deputy");
         TaskHouse x = new TaskHouse();
         same("no persons", x.deputy(0, NONE), false);
         x.person(1, 1);
@@ -213,8 +213,8 @@ public final class PromiseTest {
         same("personOf(1, 4)", x.personOf(1, 4), 0);
     }
 
-    // 8
     private static void away() {
+        check.promise(8, "away");
         TaskHouse x = Check.house("both { do ab role 0 due 1; } { both { do cd role 0 due 1; } { do ef role 0 due 1; } }");
         same("no such person", x.away(0, true), false);
         x.person(1, 9);
@@ -248,8 +248,8 @@ public final class PromiseTest {
         same("claims stay", x.personOf(1, 2), 1);
     }
 
-    // 9
     private static void stands() {
+        check.promise(9, "stands");
         TaskHouse x = new TaskHouse();
         for (int p = 0; p < 8; p++) {
             x.person(0, 1);
@@ -286,8 +286,8 @@ public final class PromiseTest {
         same("round the ring", x.stands(3), 2);
     }
 
-    // 10
     private static void hour() {
+        check.promise(10, "hour");
         TaskHouse x = new TaskHouse();
         same("hour(-1)", x.hour(-1), false);
         same("hour(0)", x.hour(0), true);
@@ -304,8 +304,8 @@ public final class PromiseTest {
         same("hour(19999)", x.hour(19999), false);
     }
 
-    // 11
     private static void run() {
+        check.promise(11, "run");
         TaskHouse x = Check.house("set a 5; do ab role 2 due 3; set a 6;");
         x.hour(10);
         for (int r = 0; r < 8; r++) {
@@ -333,6 +333,7 @@ public final class PromiseTest {
     }
 
     private static void runWays() {
+        check.promise(11, "run, both");
         TaskHouse x = Check.house("both { do aa role 0 due 1; do bb role 0 due 1; } "
             + "{ set a 1; both { set b 2; } { do cc role 0 due 1; set c 3; } do dd role 0 due 1; } do ee role 0 due 1; set d 4;");
         x.person(1, 9);
@@ -367,6 +368,7 @@ public final class PromiseTest {
     }
 
     private static void runChoices() {
+        check.promise(11, "run, if");
         String text = "do aa role 0 due 1; if b < 50 { do bb role 0 due 1; } else { do cc role 0 due 1; set a 1; } set c 9;";
         int[] values = {0, 49, 50, 99};
         for (int value : values) {
@@ -387,6 +389,7 @@ public final class PromiseTest {
     }
 
     private static void runAgain() {
+        check.promise(11, "run, again");
         TaskHouse x = Check.house("set a 9; again a < 5 { set b 1; do aa role 0 due 1; } do bb role 0 due 1;");
         x.person(1, 9);
         x.run();
@@ -423,6 +426,7 @@ public final class PromiseTest {
     }
 
     private static void runsKeepTheirBusiness() {
+        check.promise(11, "run, of the business that is there");
         TaskHouse x = Check.house("do aa role 0 due 1; do bb role 1 due 2; set a 1;");
         x.person(63, 9);
         x.run();
@@ -455,6 +459,7 @@ public final class PromiseTest {
     }
 
     private static void runFull() {
+        check.promise(11, "run, of a full house");
         TaskHouse x = nearlyFull(2);
         Check.tell(x, "set a 1; both { do aa role 0 due 1; } { both { do bb role 0 due 1; } { do cc role 0 due 1; } }");
         same("201 would be", x.run(), NONE);
@@ -471,8 +476,8 @@ public final class PromiseTest {
         same("one without tasks", x.run(), 2);
     }
 
-    // 12
     private static void runOf() {
+        check.promise(12, "runOf");
         TaskHouse x = Check.house("set a 1; set b 2; set c 3; set d 4; both { do aa role 0 due 1; } { do bb role 0 due 1; }");
         x.person(1, 9);
         x.run();
@@ -508,8 +513,8 @@ public final class PromiseTest {
         }
     }
 
-    // 13
     private static void task() {
+        check.promise(13, "task");
         TaskHouse x = Check.house("if a < 0 { do aa role 1 due 1; } else { do bb role 5 due 9; } do cc role 0 due 99;");
         x.person(33, 9);
         x.hour(8);
@@ -534,8 +539,8 @@ public final class PromiseTest {
         }
     }
 
-    // 14
     private static void may() {
+        check.promise(14, "may");
         TaskHouse x = Check.house("do aa role 3 due 1;");
         x.person(8, 1);
         x.person(55, 1);
@@ -574,6 +579,7 @@ public final class PromiseTest {
     }
 
     private static void mayEyes() {
+        check.promise(14, "may, four eyes");
         TaskHouse x = Check.house("both { do aa role 0 due 1; } { do bb role 0 due 1 eyes aa; } do cc role 0 due 1 eyes bb;");
         x.person(1, 9);
         x.person(1, 9);
@@ -617,8 +623,8 @@ public final class PromiseTest {
         same("by 0", z.task(1, 6), 0);
     }
 
-    // 15
     private static void claim() {
+        check.promise(15, "claim");
         TaskHouse x = Check.house("both { both { do aa role 0 due 1; } { do bb role 0 due 1; } } { do cc role 1 due 1; }");
         x.person(3, 2);
         x.person(1, 9);
@@ -645,8 +651,8 @@ public final class PromiseTest {
         same("by giving back too", x.claim(0, 4), 2);
     }
 
-    // 16
     private static void giveBack() {
+        check.promise(16, "giveBack");
         TaskHouse x = Check.house("do aa role 0 due 1;");
         x.person(1, 1);
         x.run();
@@ -666,8 +672,8 @@ public final class PromiseTest {
         same("is done", x.task(0, 5), 2);
     }
 
-    // 17
     private static void done() {
+        check.promise(17, "done");
         TaskHouse x = Check.house("do aa role 0 due 1; if d < 99 { both { do bb role 0 due 1; } { do cc role 0 due 1; } } else { }");
         x.person(1, 9);
         x.run();
@@ -704,6 +710,7 @@ public final class PromiseTest {
 
     /** Without a field no value is put, so that no value is a wrong one. */
     private static void doneWithoutField() {
+        check.promise(17, "done, without a field");
         int[] values = {0, 99, -1, 100, LOW, HIGH};
         for (int value : values) {
             TaskHouse x = Check.house("do aa role 0 due 1; do bb role 0 due 1;");
@@ -725,6 +732,7 @@ public final class PromiseTest {
     }
 
     private static void doneFull() {
+        check.promise(17, "done, in a full house");
         TaskHouse x = nearlyFull(3);
         Check.tell(x, "do aa role 0 due 1; set c 7; both { do bb role 0 due 1; } { both { do cc role 0 due 1; } { do dd role 0 due 1; } }");
         same("run()", x.run(), 1);
@@ -749,8 +757,8 @@ public final class PromiseTest {
         same("over", x.runOf(0, 4), 1);
     }
 
-    // 18
     private static void list() {
+        check.promise(18, "list");
         TaskHouse x = Check.house("both { do aa role 0 due 1; } { both { do bb role 1 due 1; } { do cc role 0 due 1 eyes bb; } }");
         x.person(1, 9);
         x.person(3, 1);
@@ -773,8 +781,8 @@ public final class PromiseTest {
         same("who stands in", x.list(0), 5);
     }
 
-    // 19
     private static void listed() {
+        check.promise(19, "listed");
         TaskHouse x = Check.house("both { do aa role 0 due 9; } { both { do bb role 0 due 8; } { do cc role 1 due 1; } }");
         x.person(1, 9);
         x.person(3, 9);
@@ -806,8 +814,8 @@ public final class PromiseTest {
         same("who is away", x.listed(0, 0), NONE);
     }
 
-    // 20
     private static void offer() {
+        check.promise(20, "offer");
         TaskHouse x = Check.house("both { both { do aa role 0 due 1; } { do bb role 0 due 1; } } { both { do cc role 0 due 1; } { do dd role 1 due 1; } }");
         x.run();
         same("no persons", x.offer(0), NONE);
@@ -843,8 +851,8 @@ public final class PromiseTest {
         same("stands in", x.offer(3), 1);
     }
 
-    // 21
     private static void late() {
+        check.promise(21, "late");
         TaskHouse x = Check.house("both { do aa role 0 due 1; } { do bb role 0 due 2; }");
         x.person(1, 9);
         x.run();
@@ -864,8 +872,8 @@ public final class PromiseTest {
         same("all but the done one", x.late(), 3);
     }
 
-    // 22
     private static void personOf() {
+        check.promise(22, "personOf");
         TaskHouse x = Check.house("again a < 9 { do aa role 5 due 1; }");
         x.person(32, 3);
         x.person(7, 4);
@@ -898,19 +906,21 @@ public final class PromiseTest {
         return hour / 24 % 7 <= 4 && hour % 24 >= 9 && hour % 24 <= 16;
     }
 
-    // 23
     private static void due() {
-        TaskHouse x = new TaskHouse();
+        check.promise(23, "due");
         for (int hour = 0; hour <= 400; hour++) {
+            // An object is good for 512 calls.
+            TaskHouse fresh = new TaskHouse();
             int at = hour;
             for (int n = 1; n <= 99; n++) {
                 while (!isWorking(at)) {
                     at++;
                 }
                 at++;
-                same("due(" + hour + ", " + n + ")", x.due(hour, n), at);
+                same("due(" + hour + ", " + n + ")", fresh.due(hour, n), at);
             }
         }
+        TaskHouse x = new TaskHouse();
         // 20000 is a Monday's eighth hour (20000 = 119 * 168 + 8).
         same("due(20000, 1)", x.due(20000, 1), 20002);
         same("due(20000, 99)", x.due(20000, 99), 121 * 168 + 2 * 24 + 12);
@@ -921,8 +931,8 @@ public final class PromiseTest {
         same("the clock stays", x.about(3), 0);
     }
 
-    // 24
     private static void about() {
+        check.promise(24, "about");
         TaskHouse x = Check.house("both { do aa role 0 due 1; } { do bb role 0 due 1; } set a 1;");
         x.person(1, 1);
         x.person(1, 1);
